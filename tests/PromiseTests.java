@@ -219,6 +219,16 @@ public final class PromiseTests {
         due("steps of a running one at 1", y.of(0, 8), 4);
         y.pass(2);
         due("steps of a running one at 3", y.of(0, 8), 1);
+        LockedAtDusk z = fresh();
+        z.person(2, 0, 0);
+        z.person(5, 0, 0);
+        z.person(4, 0, 0);
+        for (int minute = 0; minute < 7; minute++) {
+            due("a child at " + minute, z.of(0, 8), minute == 0 || minute == 3 || minute == 6 ? 0 : 3);
+            due("a running one at " + minute, z.of(1, 8), minute == 0 || minute == 3 || minute == 6 ? 1 : 4);
+            due("a lame one at " + minute, z.of(2, 8), minute == 1 || minute == 3 || minute == 5 ? 0 : 1);
+            z.pass(1);
+        }
         found();
         ways();
     }
@@ -425,6 +435,15 @@ public final class PromiseTests {
         due("bell 1;", faultOf("bell 1;"), 7);
         due("bell 1; bell 1", faultOf("bell 1; bell 1"), 7);
         due("pale 1", faultOf("pale 1"), 2);
+        due("bell5", faultOf("bell5"), 4);
+        due("bel 5", faultOf("bel 5"), 3);
+        due("keen5 p=1", faultOf("keen5 p=1"), 4);
+        due("keen 5p=1", faultOf("keen 5p=1"), 6);
+        due("keen 1 !", faultOf("keen 1 !"), 8);
+        due("keen 1 !&p=1", faultOf("keen 1 !&p=1"), 8);
+        due("keen 1 !;bell 1", faultOf("keen 1 !;bell 1"), 8);
+        due("keen 1 =1", faultOf("keen 1 =1"), 7);
+        due("keen 1 p1", faultOf("keen 1 p1"), 8);
         due("keel", faultOf("keel"), 3);
         due("Keen", faultOf("Keen 1 p=1"), 0);
         due("keen 1", faultOf("keen 1"), 6);
@@ -456,6 +475,10 @@ public final class PromiseTests {
         due("a text of 99", hundred.length(), 99);
         due("a long text", faultOf(hundred), -10);
         due("a full text that ends too early", faultOf(hundred + "|"), 100);
+        String full = hundred.replace("keen 1 ", "keen 11 ");
+        due("a text of 100", full.length(), 100);
+        due("a full text", faultOf(full), -10);
+        due("a full text with a fault at its end", faultOf(full.substring(0, 99) + "x"), 99);
         holding();
         tests();
         manyDusks();
@@ -474,7 +497,10 @@ public final class PromiseTests {
         due("second", duskOf(x, "bell 9;bell 07;pace 99;pace 10"), 1);
         due("the last bell", x.told(1), 7);
         due("pace, 9 if more", x.told(2), 9);
+        x.person(0, 0, 0);
+        due("a fault behind much", duskOf(x, "bell 5;pace 7;keen 3 p=0;bell"), -39);
         due("third", duskOf(x, "keen 1 p=0"), 2);
+        due("nothing of the text with a fault", x.of(0, 6), 1);
         due("bell without", x.told(1), 8);
         due("pace without", x.told(2), 3);
         due("count(2)", x.count(2), 3);
@@ -499,6 +525,9 @@ public final class PromiseTests {
         due("w", earsOf("keen 1 w=17;keen 2 w<17;keen 4 w>17;keen 8 w>16;keen 16 w<18", 0, 9, 17), 25);
         due("m at 12", earsOf("keen 1 m=2;keen 2 m<2;keen 4 m>2;keen 8 m>1;keen 16 m=12", 0, 9, 17), 9);
         due("two digits", earsOf("keen 99 w=07", 0, 0, 7), 99);
+        due("below 0 is nothing", earsOf("keen 1 p<0", 0, 0, 0), 0);
+        due("by 0", earsOf("deaf 0 p=1;keen 0 p=1;keen 00 p=1", 0, 0, 0), 0);
+        due("clause by clause", earsOf("keen 1 p=0;keen 2 p=1;deaf 4 p=0;deaf 8 p=1;keen 16 p=1", 0, 0, 0), 10);
         due("& before |", earsOf("keen 1 p=1|p=0&p=0", 0, 0, 0), 1);
         due("& before |", earsOf("keen 1 p=0&p=0|p=1", 0, 0, 0), 1);
         due("( )", earsOf("keen 1 (p=1|p=0)&p=0", 0, 0, 0), 0);
@@ -640,6 +669,8 @@ public final class PromiseTests {
         due("n 100", x.on(100, 22), BAD);
         due("now", x.on(0, 0), 0);
         due("place now", x.on(0, 10), 0);
+        due("place of the last", x.on(0, 12), 15);
+        due("found by the last", x.on(0, 22), 0);
         due("place behind 1", x.on(1, 10), 2);
         due("place behind 3", x.on(3, 10), 6);
         due("shut behind 1", x.on(1, 1), 0);
@@ -773,6 +804,34 @@ public final class PromiseTests {
         due("at is 0 for that", z.best(0), 0);
         due("at has not changed", z.told(4), 1);
         firstChanges();
+        firstOfFour();
+    }
+
+    /** Six gates near to one another, the keeper a minute at each; the old one is at gate 5 in a minute by its place. */
+    private static LockedAtDusk nearGates(int place, int... round) {
+        LockedAtDusk x = withGates(0, 1, 2, 3, 4, 5);
+        duskOf(x, "pace 9");
+        for (int gate = 0; gate < 5; gate++) {
+            x.shut(gate, true);
+        }
+        x.person(1, 0, place);
+        x.call(0, true);
+        for (int gate : round) {
+            x.round(gate);
+        }
+        return x;
+    }
+
+    private static void firstOfFour() {
+        // Gate 5 is shut in minute 3 if it is the last of four: the first is there then, the other when all is shut.
+        LockedAtDusk x = nearGates(9, 1, 0, 5, 2);
+        x.person(1, 0, 18);
+        x.call(1, true);
+        x.shut(1, false);
+        due("left", x.best(5), 2);
+        due("first", x.best(0), 3);
+        due("the last of three", nearGates(8, 0, 5, 1).best(0), 2);
+        due("the last already", nearGates(8, 0, 1, 5).best(0), 0);
     }
 
     private static void firstChanges() {
@@ -827,7 +886,14 @@ public final class PromiseTests {
         y.put(0, 10);
         due("none is left", y.best(5), 0);
         due("not less than it is", y.best(1), NOT_ANY);
+        LockedAtDusk alone = threeGates(1);
+        alone.shut(0, true);
+        due("one alone is left", alone.best(5), 1);
+        due("one alone, and nothing to change it with", alone.best(1), NOT_ANY);
         due("like gates", threeGates(1, 1).best(1), NOT_ANY);
+        // Gate 5, the fifth, is shut in minute 4, and the person there in minute 5: it must be the sixth.
+        due("4 and 5", nearGates(11, 0, 1, 2, 3, 5, 4).best(1), 45);
+        due("3 and 4", nearGates(10, 0, 1, 2, 5, 3).best(1), 34);
         due("0 and 2", threeGates(1, 1, 0).best(1), 2);
         LockedAtDusk x = threeGates(0, 1, 2);
         x.pass(1);
@@ -879,6 +945,13 @@ public final class PromiseTests {
         due("8 in minute 1 by pace 8", y.best(2), 8);
         y.put(0, 10);
         due("10 in minute 1 by none", y.best(2), 1);
+        LockedAtDusk z = fresh();
+        for (int i = 0; i < 6; i++) {
+            z.person(0, 0, 0);
+        }
+        due("six are left", z.best(5), 6);
+        due("quick, all the same", z.best(2), 1);
+        due("wait, all the same", z.best(3), 0);
     }
 
     private static void bestWait() {
@@ -921,6 +994,9 @@ public final class PromiseTests {
         due("of several the first", x.best(4), 0);
         x.put(0, 9);
         due("not less than it is", x.best(4), NOT_ANY);
+        x.put(0, 14);
+        x.best(4);
+        due("what is asked then is as told", x.on(60, 1), 3);
         LockedAtDusk y = withGates(9, 20, 11);
         y.person(1, 0, 17);
         y.round(0);
@@ -1014,6 +1090,10 @@ public final class PromiseTests {
         x.call(0, false);
         due("out, not called", x.hides(0), far);
         due("still out", x.of(0, 5), 1);
+        for (int i = 1; i < 6; i++) {
+            x.person(i, 0, 0);
+        }
+        due("six people", x.hides(5), far);
         LockedAtDusk y = withGates(0);
         y.person(4, 0, 3);
         y.person(0, 0, 0);
@@ -1093,6 +1173,10 @@ public final class PromiseTests {
         due("nor is it", x.where(0, 0), 30);
         x.see(0, true, 20);
         due("behind 20", x.where(0, 0), 30);
+        x.see(0, true, 20);
+        x.see(0, true, 20);
+        x.see(0, false, 0);
+        due("five seen", x.where(0, 0), 30);
         due("still out", x.of(0, 5), 1);
         due("where it was", x.of(0, 2), 10);
     }
@@ -1177,6 +1261,8 @@ public final class PromiseTests {
         due("part 2", x.mean(1, 2), NO);
         due("part -1", x.mean(1, -1), NO);
         // Out behind 3, 4 ..
+        due("behind 1", x.mean(1, 0), 0);
+        due("behind 1", x.mean(1, 1), 1);
         due("none yet", x.mean(2, 0), 0);
         due("none yet", x.mean(2, 1), 1);
         due("one third", x.mean(3, 0), 1);
@@ -1306,6 +1392,7 @@ public final class PromiseTests {
         x.tape(2, 0, 0);
         due("nobody, no items", x.judge(2, 5), NOT_ANY);
         x.person(0, 0, 4);
+        due("one, place -1", x.judge(2, -1), 100);
         x.person(0, 0, 0);
         x.person(0, 0, 29);
         due("it holds nothing", x.judge(0, 0), 100);
@@ -1408,6 +1495,60 @@ public final class PromiseTests {
         x.undo();
         due("the newer image", x.count(3), 0);
         undoToNoDusk();
+        undoRows();
+        undoTwice();
+    }
+
+    private static void undoRows() {
+        LockedAtDusk x = withGates(9, 9, 9);
+        x.person(0, 0, 5);
+        x.person(0, 0, 6);
+        x.evening(2, 1);
+        x.evening(2, 2);
+        x.book(0, 5);
+        x.book(1, 6);
+        x.see(0, true, 0);
+        x.see(1, false, 4);
+        x.image();
+        x.evening(-1, 0);
+        x.evening(2, 0);
+        x.evening(1, 1);
+        x.book(-1, 0);
+        x.book(1, 5);
+        x.see(-1, true, 0);
+        x.see(1, false, 1);
+        due("the evening", x.gone(1), 1);
+        due("the book", x.looked(), 0);
+        due("seen", x.where(0, 0), 30);
+        x.undo();
+        due("the evening as it was", x.gone(1), 6);
+        due("the book as it was", x.looked(), NOT_ANY);
+        due("seen as it was", x.where(0, 0), 0);
+        x.see(-1, true, 0);
+        x.see(1, true, 4);
+        x.undo();
+        x.put(1, 0);
+        due("the book's second row", x.looked(), 1);
+        due("count(4)", x.count(4), 2);
+    }
+
+    private static void undoTwice() {
+        LockedAtDusk x = withGates(3);
+        x.image();
+        x.shut(0, true);
+        x.person(0, 0, 3);
+        x.pass(1);
+        due("found", x.of(0, 4), 1);
+        x.undo();
+        x.person(0, 0, 9);
+        due("one that comes then has found none", x.of(0, 4), 0);
+        x.undo();
+        x.person(0, 0, 3);
+        x.pass(1);
+        due("out", x.of(0, 5), 1);
+        x.undo();
+        x.person(0, 0, 9);
+        due("one that comes then is not out", x.of(0, 5), 0);
     }
 
     private static void undoToNoDusk() {
@@ -1622,6 +1763,13 @@ public final class PromiseTests {
         due("nothing, n does not matter", x.tape(0, -1, -1), 1);
         due("nothing, n does not matter", x.tape(0, -1, 61), 1);
         due("nothing", x.item(0, 0, 1), NOTHING);
+        due("nothing", x.read(0, 0), NO);
+        x.tape(0, 0, 2);
+        x.item(0, 0, 7);
+        x.item(0, 1, 7);
+        x.tape(0, 0, 2);
+        due("all 0, the first", x.read(0, 0), 0);
+        due("all 0, the second", x.read(0, 1), 0);
         due("another", x.tape(5, 1, 3), 1);
         due("another", x.read(5, 2), 0);
     }
