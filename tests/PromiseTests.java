@@ -479,6 +479,11 @@ public final class PromiseTests {
         due("a text of 100", full.length(), 100);
         due("a full text", faultOf(full), -10);
         due("a full text with a fault at its end", faultOf(full.substring(0, 99) + "x"), 99);
+        due("a full text that ends with one digit", faultOf(full.replace("keen 11 ", "keen 11 !").replace("99", "9")), -10);
+        LockedAtDusk x = fresh();
+        due("a number of three digits", duskOf(x, "bell 123"), -17);
+        due("a shorter text behind that", duskOf(x, "bell 1"), 0);
+        due("its own sign alone", x.told(1), 1);
         holding();
         tests();
         manyDusks();

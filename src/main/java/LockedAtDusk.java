@@ -1140,10 +1140,11 @@ public final class LockedAtDusk {
                 return false;
             }
             at++;
-            if (!isNot) {
-                return readEither(within + 1) && skip(')');
-            }
-            if (!readPart(within + 1)) {
+            return isNot ? readBehindNot(within + 1) : readEither(within + 1) && skip(')');
+        }
+
+        private boolean readBehindNot(int within) {
+            if (!readPart(within)) {
                 return false;
             }
             dusk.addCode(Dusk.NOT);
@@ -1239,9 +1240,12 @@ public final class LockedAtDusk {
             if (depth > DEEPEST_ACT) {
                 return 0;
             }
-            int deeper = depth + 1;
             int body = bodyOf(fromKind, act);
             keep(body);
+            return answerOf(body, x, depth + 1);
+        }
+
+        private int answerOf(int body, int x, int deeper) {
             switch (body) {
                 case 10: return x + number;
                 case 11: return run(kind, WAITS, x, deeper) - v;
